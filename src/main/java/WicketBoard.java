@@ -128,8 +128,8 @@ public final class WicketBoard {
         for (int s = 0; s < seats; s++) {
             clearSeat(s);
             for (int u = 0; u < umpireCount; u++) {
-                if (fits(umpires[u], s)) {
-                    sender.allow(s, u, price(umpires[u], s));
+                if (fits(umpireAt(u), s)) {
+                    sender.allow(s, u, price(umpireAt(u), s));
                 }
             }
         }
@@ -161,12 +161,12 @@ public final class WicketBoard {
     }
 
     public boolean mark(int seat, int captain, int marks, boolean won) {
-        if (!isSeat(seat) || captain < 0 || captain > 1 || marks < 0 || marks > MOST_MARKS) {
+        Umpire one = holderOf(seat);
+        if (one == null || captain < 0 || captain > 1 || marks < 0 || marks > MOST_MARKS) {
             return false;
         }
-        Umpire one = umpireAt(holders[seat]);
         int bit = 1 << (2 * seat + captain);
-        if (one == null || (given & bit) != 0) {
+        if ((given & bit) != 0) {
             return false;
         }
         given |= bit;
@@ -182,7 +182,7 @@ public final class WicketBoard {
             endSeat(s);
         }
         for (int u = 0; u < umpireCount; u++) {
-            regrade(umpires[u]);
+            regrade(umpireAt(u));
         }
         gameCount = 0;
         given = 0;
@@ -224,8 +224,9 @@ public final class WicketBoard {
     public int together() {
         int sum = 0;
         for (int s = 0; s < 2 * gameCount; s++) {
-            if (holders[s] != NONE) {
-                sum += price(umpireAt(holders[s]), s);
+            Umpire one = holderOf(s);
+            if (one != null) {
+                sum += price(one, s);
             }
         }
         return sum;
@@ -270,6 +271,10 @@ public final class WicketBoard {
         return u >= 0 && u < umpireCount && u < MOST_UMPIRES ? umpires[u] : null;
     }
 
+    private Umpire holderOf(int seat) {
+        return isSeat(seat) ? umpireAt(holders[seat]) : null;
+    }
+
     private Game gameOf(int seat) {
         return isSeat(seat) ? games[seat / 2] : null;
     }
@@ -298,7 +303,7 @@ public final class WicketBoard {
     private int filledSeats() {
         int filled = 0;
         for (int s = 0; s < 2 * gameCount; s++) {
-            if (holders[s] != NONE) {
+            if (holderOf(s) != null) {
                 filled++;
             }
         }
@@ -306,16 +311,16 @@ public final class WicketBoard {
     }
 
     private void clearSeat(int seat) {
-        Umpire one = umpireAt(holders[seat]);
+        Umpire one = holderOf(seat);
         if (one != null) {
             one.place = NONE;
+            holders[seat] = NONE;
         }
-        holders[seat] = NONE;
     }
 
     private void fillSeat(int seat, int u) {
         Umpire one = umpireAt(u);
-        if (one != null) {
+        if (one != null && isSeat(seat)) {
             one.place = seat;
             holders[seat] = u;
         }
@@ -347,7 +352,7 @@ public final class WicketBoard {
         int bestFree = NONE;
         int least = 0;
         for (int s = 0; s < 2 * gameCount; s++) {
-            Umpire mover = umpireAt(holders[s]);
+            Umpire mover = holderOf(s);
             int free = s != seat && fits(mover, seat) ? cheapestFree(s) : NONE;
             if (free != NONE) {
                 int asked = price(mover, seat) - price(mover, s) + price(umpireAt(free), s);
@@ -358,7 +363,7 @@ public final class WicketBoard {
                 }
             }
         }
-        if (bestLeft == NONE) {
+        if (!isSeat(bestLeft)) {
             return false;
         }
         int moved = holders[bestLeft];
@@ -369,7 +374,7 @@ public final class WicketBoard {
     }
 
     private void endSeat(int seat) {
-        Umpire one = umpireAt(holders[seat]);
+        Umpire one = holderOf(seat);
         Game match = gameOf(seat);
         if (one != null && match != null) {
             one.stand(week, match.clubs);
@@ -804,8 +809,10 @@ public final class WicketBoard {
         }
 
         private void pair(int row, int column) {
-            columnOf[row] = column;
-            rowOf[column] = row;
+            if (row >= 0 && row < size && column >= 0 && column < size) {
+                columnOf[row] = column;
+                rowOf[column] = row;
+            }
         }
 
         private int gap(int row, int column) {
@@ -927,8 +934,8 @@ public final class WicketBoard {
             seen[target] = true;
             queue[0] = target;
             int waiting = 1;
-            for (int i = 0; i < waiting && waiting <= size; i++) {
-                for (int row = seat + 1; row < size; row++) {
+            for (int i = 0; i < waiting && i < size; i++) {
+                for (int row = seat + 1; row < size && waiting < size; row++) {
                     int column = columnOf[row];
                     if (column != NONE && !seen[column] && gap(row, queue[i]) == 0) {
                         seen[column] = true;

@@ -27,6 +27,7 @@ public final class PromiseTests {
         sendManyLikeOnes();
         off();
         offMoves();
+        offCosts();
         seat();
         mark();
         next();
@@ -246,6 +247,12 @@ public final class PromiseTests {
         dueFault("row 1;far 2;again 3;far 2;", 20, 3);
         dueFault("row 1;up 555;far 1;row", 9, 2);
         dueFault("of 1;of1", 5, 1);
+        dueFault("row 5z;", 4, 1);
+        dueFault("zrow 5;", 0, 1);
+        dueFault("rowz 5;", 0, 1);
+        for (String word : new String[] {"tow", "rew", "rov", "ran", "gain", "bar", "fail", "wont", "cost", "u", "if"}) {
+            dueFault(word + " 5;", 0, 1);
+        }
     }
 
     private static void rulesLongTexts() {
@@ -707,6 +714,55 @@ public final class PromiseTests {
         due("count(3)", y.count(3), 2);
     }
 
+    /** Games at 0, 0 and two other places, each with its first seat filled, and two of grade 3 free. */
+    private static WicketBoard twoMoves(int[] movers, int[] places, int[] free) {
+        WicketBoard x = new WicketBoard();
+        x.umpire(0, 0, 1, 0);
+        x.umpire(movers[0], movers[1], 1, 0);
+        x.umpire(movers[2], movers[3], 1, 0);
+        x.game(0, 0, 0, 1, 1);
+        x.game(places[0], places[1], 2, 3, 3);
+        x.game(places[2], places[3], 4, 5, 3);
+        x.send();
+        dueSeats(x, 0, NONE, 1, NONE, 2, NONE);
+        x.umpire(free[0], free[1], 3, 0);
+        x.umpire(free[2], free[3], 3, 0);
+        return x;
+    }
+
+    private static void offCosts() {
+        promise = "13 off, costs of moves";
+        // 15 and 12 less 10, or 10 and 8 less 0
+        WicketBoard x = twoMoves(new int[] {15, 0, 0, 10}, new int[] {25, 0, 0, 10}, new int[] {25, 12, 0, 18});
+        due("off(0)", x.off(0), 2);
+        dueSeats(x, 1, NONE, 3, NONE, 2, NONE);
+        // 10 and 10 less 0, or 15 and 2 less 0
+        WicketBoard y = twoMoves(new int[] {10, 0, 0, 15}, new int[] {10, 0, 0, 15}, new int[] {10, 10, 0, 17});
+        due("off(0)", y.off(0), 2);
+        dueSeats(y, 2, NONE, 1, NONE, 4, NONE);
+        WicketBoard z = new WicketBoard();
+        z.umpire(0, 0, 1, 0);
+        z.umpire(5, 0, 1, 0);
+        z.game(0, 0, 0, 1, 4);
+        z.game(5, 0, 2, 3, 1);
+        z.send();
+        dueSeats(z, 0, NONE, 1, NONE);
+        z.umpire(0, 0, 4, 0);
+        due("off(1): the first seat moves", z.off(1), 2);
+        dueSeats(z, 2, NONE, 0, NONE);
+        WicketBoard full = new WicketBoard();
+        for (int u = 0; u < 16; u++) {
+            full.umpire(0, 0, 1, 0);
+        }
+        for (int g = 0; g < 8; g++) {
+            full.game(0, 0, 0, 1, 1);
+        }
+        due("send()", full.send(), 16);
+        due("off(15) of full rows", full.off(15), 0);
+        due("off(0) of full rows", full.off(0), 0);
+        due("count(3)", full.count(3), 14);
+    }
+
     private static void seat() {
         promise = "14 seat";
         WicketBoard x = new WicketBoard();
@@ -799,6 +855,9 @@ public final class PromiseTests {
         x.game(0, 0, 0, 1, 1);
         due("send()", x.send(), 1);
         due("away(0, 99, true)", x.away(0, 99, true), false);
+        x.umpire(0, 0, 1, 0);
+        due("away(1, 99, true)", x.away(1, 99, true), true);
+        due("may(1, 0) in week 99", x.may(1, 0), false);
         due("mark", x.mark(0, 0, 1, true), true);
         due("next() of 99", x.next(), NONE);
         due("count(0)", x.count(0), 99);
