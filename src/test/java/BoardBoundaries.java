@@ -75,7 +75,9 @@ public final class BoardBoundaries extends Sentences {
         sentence("NONE: none, or no such SEAT", this::seatNone);
         sentence("0 GRADE, 1 SEAT (NONE), 2 in how many WEEKS one STOOD", this::aboutOne);
         sentence("3 MARKS since the GRADE was given, 4 how often they count together", this::aboutMarks);
+        sentence("5 all of these, as often as they count", this::aboutAllMarks);
         sentence("NoSuchElementException: no such one, or another what", this::aboutThrows);
+        sentence("Of a WEEK that ended", this::weekThatEnded);
         sentence("the CLUBS of the GAME at which UMPIRE u STOOD, as bits", this::stoodBits);
         sentence("0: one did not", this::didNotStand);
         sentence("NONE: no such UMPIRE, or no such WEEK", this::stoodNone);
@@ -703,7 +705,10 @@ public final class BoardBoundaries extends Sentences {
     private void gameRefused() {
         WicketBoard x = new WicketBoard();
         addGames(x, 7);
-        int[][] bad = {{-1, 0, 0, 1, 1}, {0, 100, 0, 1, 1}, {0, 0, -1, 1, 1}, {0, 0, 0, 12, 1}, {0, 0, 4, 4, 1}, {0, 0, 0, 1, 0}, {0, 0, 0, 1, 5}};
+        int[][] bad = {
+            {-1, 0, 0, 1, 1}, {0, 100, 0, 1, 1}, {0, 0, -1, 1, 1}, {0, 0, 0, 12, 1}, {0, 0, 4, 4, 1},
+            {0, 0, 0, 1, 0}, {0, 0, 0, 1, 5},
+        };
         for (int[] b : bad) {
             due("game of a wrong number", x.game(b[0], b[1], b[2], b[3], b[4]), NONE);
             due("count(2)", x.count(2), 7);
@@ -857,6 +862,36 @@ public final class BoardBoundaries extends Sentences {
         dueMarks(x, 1, 1, 9, 0);
     }
 
+    private void aboutAllMarks() {
+        int[][] cases = {{0, 0}, {0, 9}, {1, 1}, {9, 0}, {9, 9}};
+        for (int[] times : cases) {
+            WicketBoard x = boardWith("won " + times[0] + ";lost " + times[1] + ";");
+            addUmpires(x, 1);
+            addGames(x, 1);
+            x.send();
+            due("about(0, 5) without marks", x.about(0, 5), 0);
+            x.mark(0, 0, 100, true);
+            due("about(0, 5)", x.about(0, 5), 100 * times[0]);
+            x.mark(0, 1, 1, false);
+            due("about(0, 5)", x.about(0, 5), 100 * times[0] + times[1]);
+        }
+    }
+
+    private void weekThatEnded() {
+        WicketBoard x = boardWith("row 9;again 0;");
+        addUmpires(x, 1);
+        for (int w = 0; w < 3; w++) {
+            due("stood(0, " + w + ") ahead of the week", x.stood(0, w), NONE);
+            addGames(x, 1);
+            x.send();
+            due("stood(0, " + w + ") in the week", x.stood(0, w), NONE);
+            x.next();
+            due("stood(0, " + w + ") behind the week", x.stood(0, w), 3);
+            due("stood(0, " + (w + 1) + ")", x.stood(0, w + 1), NONE);
+            due("stood(0, 0)", x.stood(0, 0), 3);
+        }
+    }
+
     private void aboutThrows() {
         WicketBoard x = new WicketBoard();
         dueThrow(x, 0, 0);
@@ -978,6 +1013,7 @@ public final class BoardBoundaries extends Sentences {
             due("count(4)", x.count(4), 2 * s + 2);
         }
         put(x, blanks(180));
+        due("count(3) with one who cried off", oneSeatEmpty().count(3), 15);
         int[] full = {0, 20, 8, 16, 32, 180};
         for (int what = 0; what < 6; what++) {
             due("count(" + what + ") of full rows", x.count(what), full[what]);
@@ -987,6 +1023,15 @@ public final class BoardBoundaries extends Sentences {
         for (int what = 0; what < 6; what++) {
             due("count(" + what + ") in the next week", x.count(what), then[what]);
         }
+    }
+
+    private static WicketBoard oneSeatEmpty() {
+        WicketBoard x = new WicketBoard();
+        addUmpires(x, 16);
+        addGames(x, 8);
+        x.send();
+        x.off(7);
+        return x;
     }
 
     private void countNone() {

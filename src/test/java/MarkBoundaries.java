@@ -18,6 +18,7 @@ public final class MarkBoundaries extends Sentences {
         sentence("it counts won times, if that CLUB WON, else lost times", this::wonAndLost);
         sentence("(by RULES as they are then)", this::rulesThen);
         sentence("MEAN: all these, as often as they count, by how often", this::mean);
+        sentence("MARKS (0 to 100) of a captain (0, 1)", this::marksOfCaptain);
         sentence("for a SEAT: true; false: no such ones, it is empty, or they were given", this::markRefused);
     }
 
@@ -196,6 +197,22 @@ public final class MarkBoundaries extends Sentences {
         dueGrade(3, "of 2;won 0;lost 1;", 100, 79, 3);
         dueGrade(3, "of 2;won 9;lost 0;", 80, 0, 2);
         dueGrade(3, "of 2;won 9;lost 0;", 79, 100, 3);
+    }
+
+    /** Each captain's MARKS at the bounds, for each SEAT. */
+    private void marksOfCaptain() {
+        int[] marks = {-1, 0, 100, 101};
+        for (int seat = 0; seat < 2; seat++) {
+            for (int captain = -1; captain <= 2; captain++) {
+                for (int n : marks) {
+                    WicketBoard x = twoSeated("");
+                    boolean good = captain >= 0 && captain <= 1 && n >= 0 && n <= 100;
+                    due("mark(" + seat + ", " + captain + ", " + n + ")", x.mark(seat, captain, n, false), good);
+                    dueMarks(x, seat, good ? 1 : 0, good ? 1 : 0, good ? n : 0);
+                    dueMarks(x, 1 - seat, 0, 0, 0);
+                }
+            }
+        }
     }
 
     private void markRefused() {

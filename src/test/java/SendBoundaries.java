@@ -1,3 +1,5 @@
+import java.util.Random;
+
 /**
  * The boundaries of who is SENT and of OFF: promises 12 and 13 and their terms. Most boards here have
  * UMPIRES of GRADE 2 and GAMES of LEVEL 1, so that each GAME has one SEAT that they MAY have, 2 g + 1.
@@ -146,23 +148,30 @@ public final class SendBoundaries extends Sentences {
     }
 
     private void leastCost() {
-        for (int other : new int[] {9, 10, 11}) {
-            WicketBoard x = new WicketBoard();
-            x.umpire(10, 0, 2, 0);
-            x.umpire(other, 0, 2, 0);
-            addGames(x, 0);
-            due("send()", x.send(), 1);
-            dueSeats(x, NONE, other < 10 ? 1 : 0);
-            due("together()", x.together(), Math.min(10, other));
-            WicketBoard y = new WicketBoard();
-            y.umpire(50, 0, 2, 0);
-            addGames(y, 40, 50 + other);
-            due("send()", y.send(), 1);
-            dueSeats(y, NONE, other < 10 ? NONE : 0, NONE, other < 10 ? 0 : NONE);
-            due("together()", y.together(), Math.min(10, other));
+        for (int miles = 10; miles <= 11; miles++) {
+            for (int other = miles - 1; other <= miles + 1; other++) {
+                oneOfTwo(miles, other);
+            }
         }
         crossedOnes();
         turnedOnes();
+    }
+
+    /** Two UMPIRES for one SEAT, and two SEATS for one UMPIRE, of unlike miles. */
+    private void oneOfTwo(int miles, int other) {
+        WicketBoard x = new WicketBoard();
+        x.umpire(miles, 0, 2, 0);
+        x.umpire(other, 0, 2, 0);
+        addGames(x, 0);
+        due("send()", x.send(), 1);
+        dueSeats(x, NONE, other < miles ? 1 : 0);
+        due("together()", x.together(), Math.min(miles, other));
+        WicketBoard y = new WicketBoard();
+        y.umpire(50, 0, 2, 0);
+        addGames(y, 50 - miles, 50 + other);
+        due("send()", y.send(), 1);
+        dueSeats(y, NONE, other < miles ? NONE : 0, NONE, other < miles ? 0 : NONE);
+        due("together()", y.together(), Math.min(miles, other));
     }
 
     /** One who lives 31, 0 is two miles the nearer to the second GAME. */
@@ -230,6 +239,67 @@ public final class SendBoundaries extends Sentences {
         addGames(x, 0, 0, 0);
         due("send(): the least who leaves one for each", x.send(), 3);
         dueSeats(x, NONE, 2, NONE, 1, NONE, 0);
+        for (int seed = 0; seed < 60; seed++) {
+            firstOfAllWays(seed, 6, 2);
+            firstOfAllWays(seed, 6, 3);
+        }
+    }
+
+    /** Boards on which many ways are alike, against a trial of every way. */
+    private void firstOfAllWays(int seed, int umpires, int games) {
+        Random dice = new Random(seed);
+        WicketBoard x = new WicketBoard();
+        for (int u = 0; u < umpires; u++) {
+            x.umpire(dice.nextInt(3), 0, 1 + dice.nextInt(3), 1 << dice.nextInt(6));
+        }
+        for (int g = 0; g < games; g++) {
+            x.game(dice.nextInt(3), 0, dice.nextInt(3), 3 + dice.nextInt(3), 1 + dice.nextInt(2));
+        }
+        AllWays ways = new AllWays(x, umpires, 2 * games);
+        x.send();
+        for (int s = 0; s < 2 * games; s++) {
+            due("seat(" + s + ") of board " + seed, x.seat(s), ways.first[s]);
+        }
+    }
+
+    /** Tries every way to fill the SEATS, in the order of the document; the first of the best stays. */
+    private static final class AllWays {
+        final int[] first;
+        private final int[][] price;
+        private final int[] now;
+        private int mostFilled = -1;
+        private int leastCost;
+
+        AllWays(WicketBoard x, int umpires, int seats) {
+            first = new int[seats];
+            now = new int[seats];
+            price = new int[seats][umpires];
+            for (int s = 0; s < seats; s++) {
+                for (int u = 0; u < umpires; u++) {
+                    price[s][u] = x.may(u, s) ? x.cost(u, s) : NONE;
+                }
+            }
+            fillFrom(0, 0, 0, 0);
+        }
+
+        private void fillFrom(int seat, int taken, int filled, int cost) {
+            if (seat == now.length) {
+                if (filled > mostFilled || filled == mostFilled && cost < leastCost) {
+                    mostFilled = filled;
+                    leastCost = cost;
+                    System.arraycopy(now, 0, first, 0, now.length);
+                }
+                return;
+            }
+            for (int u = 0; u < price[seat].length; u++) {
+                if ((taken & 1 << u) == 0 && price[seat][u] != NONE) {
+                    now[seat] = u;
+                    fillFrom(seat + 1, taken | 1 << u, filled + 1, cost + price[seat][u]);
+                }
+            }
+            now[seat] = NONE;
+            fillFrom(seat + 1, taken, filled, cost);
+        }
     }
 
     private void emptyLast() {
@@ -255,6 +325,10 @@ public final class SendBoundaries extends Sentences {
         addGames(last, 0, 0);
         due("send()", last.send(), 1);
         dueSeats(last, NONE, 19, NONE, NONE);
+        for (int seed = 0; seed < 60; seed++) {
+            firstOfAllWays(seed, 3, 2);
+            firstOfAllWays(seed, 4, 3);
+        }
     }
 
     private void sentAnew() {
@@ -280,6 +354,31 @@ public final class SendBoundaries extends Sentences {
         dueSeats(x, NONE, 0, NONE, 1);
         due("send() without a change", x.send(), 2);
         dueSeats(x, NONE, 0, NONE, 1);
+        for (int seed = 0; seed < 2000; seed++) {
+            sentAgainAndAgain(seed);
+        }
+    }
+
+    /** One board that changes from send() to send(), each against a trial of every way. */
+    private void sentAgainAndAgain(int seed) {
+        Random dice = new Random(seed);
+        WicketBoard x = new WicketBoard();
+        for (int round = 0; round < 5; round++) {
+            x.umpire(dice.nextInt(20), dice.nextInt(9), 1 + dice.nextInt(3), 1 << dice.nextInt(6));
+            if (dice.nextBoolean()) {
+                x.next();
+            }
+            for (int games = 1 + dice.nextInt(3); x.count(2) < games; ) {
+                x.game(dice.nextInt(20), dice.nextInt(9), dice.nextInt(3), 3 + dice.nextInt(3), 1 + dice.nextInt(3));
+            }
+            say(x, "again 0;far " + (5 + dice.nextInt(20)) + ";");
+            int seats = 2 * x.count(2);
+            AllWays ways = new AllWays(x, x.count(1), seats);
+            x.send();
+            for (int s = 0; s < seats; s++) {
+                due("seat(" + s + ") of board " + seed + " in round " + round, x.seat(s), ways.first[s]);
+            }
+        }
     }
 
     private void howManyFilled() {
@@ -383,18 +482,20 @@ public final class SendBoundaries extends Sentences {
         dueSeats(x, NONE, 6, NONE, 1);
         due("off(6)", x.off(6), 0);
         dueSeats(x, NONE, NONE, NONE, 1);
-        WicketBoard stood = boardWith("again 0;fair 1;");
-        stood.umpire(0, 0, 2, 0);
-        addGames(stood, 0);
-        stood.send();
-        stood.next();
-        stood.umpire(0, 0, 2, 0);
-        addGames(stood, 0);
-        stood.send();
-        dueSeats(stood, NONE, 1);
-        stood.umpire(2, 0, 2, 0);
-        due("off(1): by the one who costs a week, not two miles", stood.off(1), 1);
-        dueSeats(stood, NONE, 0);
+        for (int other : new int[] {4, 5, 6}) {
+            WicketBoard stood = boardWith("again 0;fair 5;");
+            stood.umpire(0, 0, 2, 0);
+            addGames(stood, 0);
+            stood.send();
+            stood.next();
+            stood.umpire(0, 0, 2, 0);
+            addGames(stood, 0);
+            stood.send();
+            dueSeats(stood, NONE, 1);
+            stood.umpire(other, 0, 2, 0);
+            due("off(1), a week stood or " + other + " miles", stood.off(1), 1);
+            dueSeats(stood, NONE, other < 5 ? 2 : 0);
+        }
     }
 
     private void leastNumber() {
