@@ -756,6 +756,8 @@ public final class WicketBoard {
         private static final int EMPTY_COST = 100_000;
         /** Above what it costs to leave every SEAT empty. */
         private static final int BARRED_COST = 10_000_000;
+        /** Above every gap between a pair's cost and the parts that its row and column bear. */
+        private static final int NOT_REACHED = 1_000_000_000;
 
         private final int[] prices = new int[MOST_SEATS * MOST_UMPIRES];
         private final int[] columnOf = new int[MOST_ROWS];
@@ -827,7 +829,7 @@ public final class WicketBoard {
             for (int c = 0; c < size; c++) {
                 seen[c] = false;
                 link[c] = NONE;
-                slack[c] = Integer.MAX_VALUE;
+                slack[c] = NOT_REACHED;
             }
         }
 

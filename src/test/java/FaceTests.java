@@ -1,39 +1,23 @@
+import java.io.IOException;
 import java.lang.management.ManagementFactory;
 import java.lang.reflect.Constructor;
 import java.lang.reflect.Field;
 import java.lang.reflect.Method;
 import java.lang.reflect.Modifier;
-import java.util.Arrays;
+import java.nio.file.Files;
+import java.nio.file.Path;
 import java.util.Set;
 import java.util.TreeSet;
+import java.util.regex.Matcher;
+import java.util.regex.Pattern;
 
 /** The public face is that of the document and no more, and calls take little room. */
 public final class FaceTests {
-    private static final String[] FACE = {
-        "int feed(int, int, int, int, int)",
-        "boolean end(int)",
-        "int rules()",
-        "int fault()",
-        "int rule(int)",
-        "int umpire(int, int, int, int)",
-        "boolean away(int, int, boolean)",
-        "int game(int, int, int, int, int)",
-        "boolean may(int, int)",
-        "int cost(int, int)",
-        "int send()",
-        "int off(int)",
-        "int seat(int)",
-        "boolean mark(int, int, int, boolean)",
-        "int next()",
-        "int about(int, int) throws NoSuchElementException",
-        "int stood(int, int)",
-        "int together()",
-        "int count(int)",
-    };
+    private static final Path DOCUMENT = Path.of("../shared/DOC.md");
     private static final long MOST_BYTES = 100_000;
     private static int wrong = 0;
 
-    public static void main(String[] args) {
+    public static void main(String[] args) throws IOException {
         methods();
         fieldsAndConstructors();
         room();
@@ -61,7 +45,19 @@ public final class FaceTests {
         return text.toString();
     }
 
-    private static void methods() {
+    /** The methods as the document tells them, without the names of their parameters. */
+    private static Set<String> documentFace() throws IOException {
+        Set<String> face = new TreeSet<>();
+        Pattern method = Pattern.compile("    public ((?:int|boolean) \\w+\\(.*\\).*);");
+        Matcher found = method.matcher(Files.readString(DOCUMENT));
+        while (found.find()) {
+            face.add(found.group(1).replaceAll("(int|boolean) \\w+(?=[,)])", "$1"));
+        }
+        check(face.size() == 19, "of the document's methods " + face.size() + " were found");
+        return face;
+    }
+
+    private static void methods() throws IOException {
         Set<String> shown = new TreeSet<>();
         Set<String> shownNames = new TreeSet<>();
         for (Method m : WicketBoard.class.getDeclaredMethods()) {
@@ -71,7 +67,7 @@ public final class FaceTests {
                 check(m.getModifiers() == Modifier.PUBLIC, m.getName() + " is not just public");
             }
         }
-        check(shown.equals(new TreeSet<>(Arrays.asList(FACE))), "the methods are " + shown);
+        check(shown.equals(documentFace()), "the methods are " + shown + ", due are " + documentFace());
         for (Method m : WicketBoard.class.getDeclaredMethods()) {
             boolean hidden = Modifier.isPrivate(m.getModifiers());
             check(!hidden || !shownNames.contains(m.getName()), m.getName() + " is also private");
