@@ -110,7 +110,7 @@ public final class FaceTests {
         for (int g = 0; g < 8; g++) {
             x.game(g % 2, g % 3, g, g + 1, 1 + g % 4);
         }
-        for (int i = 0; i < 120; i++) {
+        for (int i = 0; i < 96; i++) {
             x.send();
             x.off(x.seat(i % 16));
             x.feed(i, i, i, i, i);

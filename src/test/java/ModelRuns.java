@@ -4,16 +4,26 @@ import java.util.List;
 import java.util.NoSuchElementException;
 import java.util.Random;
 
-/** Random runs of 512 calls, each answer compared with that of a slow and plain model. */
+/** Random runs of up to 512 calls, each answer compared with that of a slow and plain model. */
 public final class ModelRuns {
+    /** The document promises nothing of an object after so many calls. */
     private static final int CALLS = 512;
+    /** No step of a run makes more calls than this. */
+    private static final int CALLS_OF_A_STEP = 24;
+    /** How often of a hundred times: umpire, game, send, off, mark, next, rules; else a question. */
+    private static final int[][] PACES = {
+        {5, 12, 12, 10, 4, 8, 6},
+        {3, 14, 16, 40, 0, 10, 2},
+        {3, 4, 20, 2, 50, 15, 2},
+        {1, 2, 7, 1, 7, 80, 0},
+    };
     private static final long THROWN = Long.MIN_VALUE;
     private static int wrong = 0;
 
     public static void main(String[] args) {
-        int runs = args.length > 0 ? Integer.parseInt(args[0]) : 600;
+        int runs = args.length > 0 ? Integer.parseInt(args[0]) : 2000;
         for (int seed = 0; seed < runs && wrong < 5; seed++) {
-            new Run(seed, 3 + seed % 10, seed % 7 == 0).play();
+            new Run(seed, 3 + seed % 10, seed % 7 == 0, PACES[seed % PACES.length]).play();
         }
         for (int seed = 0; seed < 3 && wrong < 5; seed++) {
             bigSend(seed);
@@ -56,19 +66,26 @@ public final class ModelRuns {
         final List<String> log = new ArrayList<>();
         final int mostUmpires;
         final boolean wild;
+        final int[] pace;
+        final boolean hasManyWeeks;
         final int spread;
         boolean same = true;
 
-        Run(int seed, int mostUmpires, boolean wild) {
+        Run(int seed, int mostUmpires, boolean wild, int[] pace) {
             this.seed = seed;
             this.mostUmpires = mostUmpires;
             this.wild = wild;
+            this.pace = pace;
+            hasManyWeeks = pace[5] > 50;
             dice = new Random(seed);
             spread = new int[] {3, 10, 40, 100}[dice.nextInt(4)];
         }
 
         void play() {
-            for (int i = 0; i < CALLS && same; i++) {
+            for (int i = 2; i < mostUmpires; i++) {
+                umpire();
+            }
+            for (int i = 0; i < CALLS && same && log.size() + CALLS_OF_A_STEP <= CALLS; i++) {
                 try {
                     step();
                 } catch (RuntimeException e) {
@@ -104,32 +121,62 @@ public final class ModelRuns {
             return odd(dice.nextInt(Math.max(1, 2 * m.games.size())));
         }
 
+        /** A SEAT that has an UMPIRE, if one has. */
+        int someFilledSeat() {
+            List<Integer> filled = new ArrayList<>();
+            for (int s = 0; s < 2 * m.games.size(); s++) {
+                if (m.seat(s) >= 0) {
+                    filled.add(s);
+                }
+            }
+            return odd(filled.isEmpty() ? 0 : filled.get(dice.nextInt(filled.size())));
+        }
+
         int someBars() {
             return dice.nextInt(3) == 0 ? 1 << dice.nextInt(12) | 1 << dice.nextInt(12) : 0;
         }
 
+        int kindOfStep() {
+            int left = dice.nextInt(100);
+            int kind = 0;
+            while (kind < pace.length && left >= pace[kind]) {
+                left -= pace[kind];
+                kind++;
+            }
+            return kind;
+        }
+
         void step() {
-            int kind = dice.nextInt(100);
-            if (kind < 5) {
-                umpire();
-            } else if (kind < 17) {
+            switch (kindOfStep()) {
+                case 0 -> umpire();
+                case 1 -> game();
+                case 2 -> send();
+                case 3 -> off();
+                case 4 -> marks();
+                case 5 -> next();
+                case 6 -> rules();
+                default -> ask();
+            }
+        }
+
+        void send() {
+            compare("send()", x.send(), m.send());
+            seats();
+        }
+
+        void off() {
+            int u = dice.nextInt(4) > 0 ? m.seat(someFilledSeat()) : someUmpire();
+            compare("off(" + u + ")", x.off(u), m.off(u));
+            seats();
+        }
+
+        void next() {
+            compare("next()", x.next(), m.next());
+            for (int i = dice.nextInt(hasManyWeeks ? 2 : 4); i > 0; i--) {
                 game();
-            } else if (kind < 26) {
-                compare("send()", x.send(), m.send());
-                seats();
-            } else if (kind < 36) {
-                int u = dice.nextBoolean() ? x.seat(someSeat()) : someUmpire();
-                compare("off(" + u + ")", x.off(u), m.off(u));
-                seats();
-            } else if (kind < 48) {
-                marks();
-            } else if (kind < 55) {
-                compare("next()", x.next(), m.next());
-                everyone();
-            } else if (kind < 61) {
-                rules();
-            } else {
-                ask(kind);
+            }
+            if (!m.umpires.isEmpty() && dice.nextInt(hasManyWeeks ? 20 : 3) == 0) {
+                everythingAbout(dice.nextInt(m.umpires.size()));
             }
         }
 
@@ -155,29 +202,25 @@ public final class ModelRuns {
         }
 
         void marks() {
-            int s = someSeat();
+            int s = dice.nextInt(4) > 0 ? someFilledSeat() : someSeat();
             int captain = odd(dice.nextInt(2));
             int marks = odd(dice.nextInt(3) == 0 ? dice.nextInt(101) : dice.nextInt(2) * 100);
             boolean won = dice.nextBoolean();
-            if (dice.nextInt(3) == 0) {
-                String call = "mark(" + s + ", " + captain + ", " + marks + ", " + won + ")";
-                compare(call, x.mark(s, captain, marks, won), m.mark(s, captain, marks, won));
-            }
+            String call = "mark(" + s + ", " + captain + ", " + marks + ", " + won + ")";
+            compare(call, x.mark(s, captain, marks, won), m.mark(s, captain, marks, won));
         }
 
         void seats() {
-            for (int s = -1; s <= 16; s++) {
+            for (int s = 0; s <= 2 * m.games.size(); s++) {
                 compare("seat(" + s + ")", x.seat(s), m.seat(s));
             }
             compare("together()", x.together(), m.together());
             compare("count(3)", x.count(3), m.count(3));
         }
 
-        void everyone() {
-            for (int u = 0; u < m.umpires.size(); u++) {
-                for (int what = 0; what < 6; what++) {
-                    compare("about(" + u + ", " + what + ")", x.about(u, what), m.about(u, what));
-                }
+        void everythingAbout(int u) {
+            for (int what = 0; what < 6; what++) {
+                compare("about(" + u + ", " + what + ")", x.about(u, what), m.about(u, what));
             }
         }
 
@@ -232,25 +275,19 @@ public final class ModelRuns {
             return text.length() > 180 ? text.substring(0, 150 + dice.nextInt(31)) : text.toString();
         }
 
-        void ask(int kind) {
+        void ask() {
             int u = someUmpire();
             int s = someSeat();
             int w = odd(Math.max(0, m.week - 3 + dice.nextInt(6)));
-            if (kind < 70) {
-                compare("may(" + u + ", " + s + ")", x.may(u, s), m.may(u, s));
-            } else if (kind < 76) {
-                compare("cost(" + u + ", " + s + ")", x.cost(u, s), m.cost(u, s));
-            } else if (kind < 84) {
-                boolean is = dice.nextInt(3) > 0;
-                compare("away(" + u + ", " + w + ", " + is + ")", x.away(u, w, is), m.away(u, w, is));
-            } else if (kind < 90) {
-                compare("stood(" + u + ", " + w + ")", x.stood(u, w), m.stood(u, w));
-            } else if (kind < 95) {
-                int what = odd(dice.nextInt(6));
-                compare("count(" + what + ")", x.count(what), m.count(what));
-            } else {
-                int what = odd(dice.nextInt(6));
-                compare("about(" + u + ", " + what + ")", told(u, what), due(u, what));
+            int what = odd(dice.nextInt(6));
+            boolean is = dice.nextInt(3) > 0;
+            switch (dice.nextInt(6)) {
+                case 0 -> compare("may(" + u + ", " + s + ")", x.may(u, s), m.may(u, s));
+                case 1 -> compare("cost(" + u + ", " + s + ")", x.cost(u, s), m.cost(u, s));
+                case 2 -> compare("away(" + u + ", " + w + ", " + is + ")", x.away(u, w, is), m.away(u, w, is));
+                case 3 -> compare("stood(" + u + ", " + w + ")", x.stood(u, w), m.stood(u, w));
+                case 4 -> compare("count(" + what + ")", x.count(what), m.count(what));
+                default -> compare("about(" + u + ", " + what + ")", told(u, what), due(u, what));
             }
         }
 
